@@ -497,12 +497,9 @@ public final class DeadCap {
       return NONE;
     }
     tally.load(books);
-    // What a CUT saves changes on these three days alone, so the last day that saves enough
-    // is the eve of one of them, or the last of all.
-    int last = dayIfSaved(k, much, LAST_DAY);
-    last = Math.max(last, dayIfSaved(k, much, books.rosterDay - 1));
-    last = Math.max(last, dayIfSaved(k, much, books.cutDay - 1));
-    return Math.max(last, dayIfSaved(k, much, books.seasonDay - 1));
+    // From CUT DAY and from SEASON DAY on a CUT saves as much as ahead of it at least; only
+    // ROSTER DAY takes away from it. So the last day is the last of all, or ROSTER DAY's eve.
+    return Math.max(dayIfSaved(k, much, LAST_DAY), dayIfSaved(k, much, books.rosterDay - 1));
   }
 
   // ---- money in hand, and what years are like ----

@@ -90,6 +90,7 @@ public final class PromisesTest {
     over();
     Check.part("52 undo to 54 restore");
     undo();
+    placesUsedAgain();
     deeds();
     keep();
     Check.part("55 write, 56 octet");
@@ -182,6 +183,7 @@ public final class PromisesTest {
         "p0,1,0,0,0;", "p0,1,0,0,0:99,0;", "p0,1,0,0,0:100000,", "p0,1,0,0,0:100,100000;", "p0,1,0,0,0:100,0:100,0;", "p0,2,0,0,0:100,0;",
         "m200;p0,1,0,0,0:199,0;", "p0,1,0,0,0:99,0;m0;", "C1;", "c-1;", "c41", "p0,1,0,0,0:99"};
     int[] places = {0, 1, 2, 3, 4, 6, 0, 3, 3, 1, 7, 1, 1, 1, 19, 1, 3, 5, 4, 1, 1, 3, 3, 4, 5, 6, 7, 9, 10, 11, 11, 15, 16, 16, 16, 11, 0, 1, 1, 11};
+    due("each day may be 0", Check.told("d0,0,0;").is(4), 0);
     due("as many places", texts.length, places.length);
     DeadCap x = new DeadCap();
     for (int i = 0; i < texts.length; i++) {
@@ -261,6 +263,9 @@ public final class PromisesTest {
     due("why", x.why(), 3);
     due("0 days", Check.acts(x, "d0;"), 0);
     due("why", x.why(), 4);
+    due("a TURN of 0", Check.acts(x, "t0,0;"), 0);
+    due("fault", x.fault(), -1);
+    due("why", x.why(), 4);
     due("more than money", Check.acts(x, "d1;t0,999999;"), 1);
     due("why", x.why(), 4);
     String[] texts = {"x", "t1;", "w", "x1", "y1;", "y;x;", "t1,2,", "d1234567;", "d1;z"};
@@ -277,6 +282,9 @@ public final class PromisesTest {
     due("refused", x.cut(77), -1);
     due("none", Check.acts(x, ""), 0);
     due("why stays", x.why(), 1);
+    DeadCap sure = Check.told("p0,1,0,0,50:900,0;");
+    Check.acts(sure, "x0;");
+    due("x is a CUT", sure.dead(0), 450);
   }
 
   private static void fault() {
@@ -479,6 +487,10 @@ public final class PromisesTest {
     due("sign", x.sign(1), 0);
     due("it is in THE MARKET no more", x.offer(2, 0), -1);
     due("those behind move up", x.offer(1, 0), 30);
+    due("those behind move up", x.offer(1, 1), 1);
+    due("those behind move up", x.offer(1, 2), 0);
+    due("those behind move up", x.offer(1, 3), 400);
+    due("those ahead stay", x.offer(0, 4), 701);
     int[] of = {0, 6, 0, 0, 0, 6, 503, 1};
     for (int what = 0; what < 8; what++) {
       due("contract(0, " + what + ")", x.contract(0, what), of[what]);
@@ -534,6 +546,13 @@ public final class PromisesTest {
     due("of ROOM below 0", x.buys(1), 1);
     Check.market(x, times("1,1,0,0;", 12));
     due("the first 10 alone", x.buys(1), 1023);
+    DeadCap fresh = Check.told("l0,1000;p0,1,0,0,0:900,0;");
+    Check.market(fresh, "5,1,0,100;9,1,0,101;");
+    due("ROOM as it is now", fresh.buys(0), 5);
+    fresh.days(1);
+    due("a set ahead of it", fresh.set(1000, 1), 1);
+    Check.market(fresh, "");
+    due("does not matter", fresh.buys(1) + fresh.buys(2), 0);
     due("buys(3)", x.buys(3), -1);
     due("buys(-1)", x.buys(-1), -1);
   }
@@ -643,6 +662,11 @@ public final class PromisesTest {
     due("from YEAR on", x.turn(0, 1003), 2500 + 180 - 1003 + 253);
     due("the last", x.pay(0, 4, 2), 1180 + 250);
     due("all stay", x.coins(0, 0), 5000 + 900 + 1003);
+    DeadCap later = Check.told("p2,3,0,0,0:500,0:600,0:700,0;");
+    Check.acts(later, "y;y;y;");
+    due("in its second YEAR", later.turn(0, 100), 550);
+    due("BASE of YEAR", later.pay(0, 3, 0), 500);
+    due("the last", later.pay(0, 4, 3), 750);
     DeadCap far = Check.told("p0,6,4,0,0" + times(":1100,0", 6) + ";");
     due("5 at most", far.turn(0, 1000), 300);
     due("the fifth", far.pay(0, 4, 2), 200);
@@ -681,6 +705,10 @@ public final class PromisesTest {
     due("why", x.why(), 2);
     due("no such", x.longer(3, 1, 500, 0), -1);
     due("why", x.why(), 1);
+    DeadCap edge = Check.told("m0;p0,1,0,0,0:500,0;");
+    due("BASE 0", edge.longer(0, 1, 0, 0), 1);
+    due("BASE 99999", edge.longer(0, 5, 99999, 99999), 6);
+    due("its BASE", edge.pay(0, 6, 0), 99999);
     DeadCap late = Check.told("p15,2,1,0,0:500,0:500,0;");
     Check.acts(late, times("y;", 15));
     due("VOID ones, too, by 19", late.longer(0, 3, 500, 0), -1);
@@ -811,7 +839,16 @@ public final class PromisesTest {
     // 0 saves nothing, 1 saves 50: 300 of BASE and 250 of its PART less 500 DEAD
     due("SAVED above 0 alone", dear.byPolicy(999999), 1);
     due("1", dear.contract(1, 4), 1);
+    due("DEAD by it", dear.dead(0), 500);
     due("nothing more", dear.byPolicy(999999), 0);
+    DeadCap sure = Check.told("p0,1,0,0,50:900,0;p0,1,0,0,99:100,0;");
+    Check.policy(sure, "0-9");
+    due("SUM below 0, SAVED 1", sure.byPolicy(999999), 2);
+    due("they are CUT", sure.dead(0), 450 + 99);
+    DeadCap all = Check.told("c40;" + times("p0,1,0,0,0:100,0;", 20));
+    Check.text(all, times("p0,1,0,0,0:100,0;", 20));
+    Check.policy(all, "n");
+    due("all 40", all.byPolicy(100000), 40);
     due("why is not its", dear.why(), 0);
   }
 
@@ -824,6 +861,7 @@ public final class PromisesTest {
     due("none", x.set(97201, 0), -2);
     due("none", x.set(97201, 1), -2);
     due("none", x.set(MAX, 0), -2);
+    due("nothing is done", x.now(0), 3300);
     due("all", x.set(MIN, 0), 0);
     due("set(0, 2)", x.set(0, 2), -1);
     due("set(0, -1)", x.set(0, -1), -1);
@@ -881,6 +919,12 @@ public final class PromisesTest {
     DeadCap rule = Check.told("c1;p0,2,0,0,100:600,0:600,0;p0,1,0,0,100:500,0;");
     // 0 TURNED counts 100 + 250, so 1 counts in full in its stead: 250 of PARTS and 500
     due("ranks are made anew", rule.fit(99401, 0), -2);
+    DeadCap parts = Check.told("c1;m0;p0,2,0,10,100:100,0:100,0;p0,2,0,20,100:200,0:200,0;p0,1,0,0,0:500,0;");
+    // 2 counts 500 in full, of 0 and 1 PARTS alone: a TURN makes them more, a CUT of 2 lets 1 move up
+    due("ROOM", parts.now(1), 100000 - 515);
+    due("2 is CUT", parts.fit(99500, 1), 4);
+    due("1 is TURNED, too: its 110 count, 0 stays", parts.fit(99880, 2), 2);
+    due("none", parts.fit(99886, 0), -2);
     DeadCap many = Check.told(times("p0,1,0,0,0:100,0;", 7));
     due("the first 6", many.fit(99900, 1), 63);
     due("not more", many.fit(99901, 1), -2);
@@ -903,6 +947,9 @@ public final class PromisesTest {
     // 0 counts 1380, 1 700 with 600 of it PARTS, 2 500 with 400 of it PARTS
     due("allTurned", x.allTurned(), 100000 - 1380 - 700 - 400);
     due("nothing is done", x.now(0), 3300);
+    DeadCap ranks = Check.told("c1;p0,2,0,0,0:900,0:900,0;p0,1,0,0,0:300,500;");
+    // 0 has 100 + 400 then, so 1 counts in full: 800
+    due("ranks are made anew", ranks.allTurned(), 100000 - 800 - 400);
     Check.text(x, "m1000;");
     due("none above LEAST PAY", x.turned(2, 0), 0);
     due("nothing less", x.turned(2, 1), 0);
@@ -1025,6 +1072,7 @@ public final class PromisesTest {
     for (int i = 0; i < 5; i++) {
       due("piece " + i, x.piece(0, 1003, i), pieces[i]);
     }
+    due("x 1", x.piece(0, 1, 0), 1);
     due("BASE isn't asked", x.piece(0, 99999, 0), 20003);
     due("behind its YEARS", x.piece(2, 1001, 2), 0);
     due("the first", x.piece(2, 1001, 0), 501);
@@ -1113,6 +1161,7 @@ public final class PromisesTest {
     DeadCap x = Check.told(FOUR);
     due("the least", x.counted(0), 900);
     due("how many don't", x.counted(1), 2);
+    due("of one", Check.told("p0,1,0,0,0:500,0;").counted(0), 500);
     due("others", x.counted(2), -1);
     due("others", x.counted(-1), -1);
     x.days(200);
@@ -1204,9 +1253,60 @@ public final class PromisesTest {
     due("DAY", x.is(1), 2);
   }
 
+  /** What was taken back leaves nothing behind in what comes in its place. */
+  private static void placesUsedAgain() {
+    DeadCap x = new DeadCap();
+    DeadCap signed = new DeadCap();
+    Check.market(signed, "1,1,0,100;");
+    signed.keep(0);
+    Check.text(signed, "p0,1,0,0,0:100,0;");
+    signed.cut(0);
+    signed.restore(0);
+    due("sign", signed.sign(0), 0);
+    due("it is OPEN", signed.contract(0, 4), 0);
+    DeadCap two = Check.told("p0,1,0,0,0:100,0;p0,1,0,0,0:100,0;");
+    two.promise(1, 0, 5, true);
+    two.keep(1);
+    two.undo();
+    two.promise(0, 0, 5, true);
+    two.restore(1);
+    due("its CONTRACT", two.promised(0, 0), 1);
+    for (int i = 0; i < 3; i++) {
+      Check.text(x, "p0,6,4,1000,9" + times(":900,90", 6) + ";");
+      x.promise(0, 0, 5, true);
+      x.earn(0);
+      x.keep(0);
+      x.cut(0);
+      x.undo();
+      x.undo();
+      x.undo();
+      due("promise", x.promise(0, 1, 6, false), 0);
+      due("not EARNED", x.promised(0, 4), 0);
+      x.restore(0);
+      due("promised", x.promised(0, 1), 0);
+      due("promised", x.promised(0, 2), 5);
+      due("promised", x.promised(0, 3), 1);
+      due("promised", x.promised(0, 4), 1);
+      x.cut(0);
+      for (int j = 0; j < 6; j++) {
+        x.undo();
+      }
+      due("none", x.is(7), 0);
+      due("one", Check.text(x, "p0,1,0,10,0:500,0;"), 1);
+      due("it is OPEN", x.contract(0, 4), 0);
+      due("longer", x.longer(0, 5, 100, 0), 5);
+      due("its pay", x.pay(0, 5, 3), 100);
+      due("its CASH", x.cash(0, 0), 510);
+      due("its BONUSES", x.coins(0, 0), 10);
+      x.undo();
+      x.undo();
+      due("DEEDS", x.is(11), 0);
+    }
+  }
+
   /** Each kind of DEED is done once and taken back. */
   private static void deeds() {
-    DeadCap x = Check.told("p0,2,0,1000,0:900,0:900,0;p0,1,1,100,0:900,0;");
+    DeadCap x = Check.told("p0,2,0,1000,0:900,0:900,70;p0,1,1,100,0:900,0;");
     due("policy", Check.policy(x, "h"), 1);
     due("market", Check.market(x, "1,1,0,100;"), 1);
     due("undo market", x.undo(), 2);
@@ -1300,7 +1400,7 @@ public final class PromisesTest {
   }
 
   private static void keep() {
-    DeadCap x = Check.told("p0,2,0,1000,0:900,0:900,0;p0,1,1,100,0:900,0;");
+    DeadCap x = Check.told("p0,2,0,1000,0:900,0:900,70;p0,1,1,100,0:900,0;");
     Check.policy(x, "h");
     Check.market(x, "1,1,0,100;");
     x.promise(0, 0, 77, true);
