@@ -254,8 +254,7 @@ public final class DeadCap {
   }
 
   public int sign(int i) {
-    Market offers = books.offers;
-    why = offers.has(i) ? books.signRefusal(i) : NO_SUCH;
+    why = books.signRefusal(i);
     if (why != DONE) {
       return NONE;
     }
@@ -1273,6 +1272,9 @@ public final class DeadCap {
     }
 
     int signRefusal(int i) {
+      if (!offers.has(i)) {
+        return NO_SUCH;
+      }
       boolean tooMany = size >= MOST_CONTRACTS || year + offers.years[i] > MANY_YEARS;
       return tooMany ? TOO_MANY_YEARS : DONE;
     }
@@ -1919,7 +1921,6 @@ public final class DeadCap {
 
     /** The empty set is always one of them, so there always is a best one. */
     void chooseOffers(Market offers, int room) {
-      found = true;
       worth = 0;
       bits = 0;
       money = 0;
