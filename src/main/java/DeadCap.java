@@ -19,6 +19,7 @@ public final class DeadCap {
   private static final int MOST_MONEY = 99999;
   private static final int MOST_LIMIT = 999999;
   private static final int MOST_NUMBER = 999999;
+  private static final int MOST_GOAL = 999999;
   private static final int MOST_MORE_YEARS = 5;
   private static final int KEPT_PLACES = 2;
 
@@ -354,7 +355,7 @@ public final class DeadCap {
   }
 
   public int byPolicy(int goal) {
-    if (books.formula.size == 0 || goal < -MOST_LIMIT || goal > MOST_LIMIT) {
+    if (books.formula.size == 0 || !isGoal(goal)) {
       return NONE;
     }
     int many = 0;
@@ -377,7 +378,7 @@ public final class DeadCap {
   }
 
   public int set(int goal, int what) {
-    if (what < 0 || what > 1) {
+    if (!isGoal(goal) || what < 0 || what > 1) {
       return NONE;
     }
     chooser.chooseSet(books, tally, goal);
@@ -470,7 +471,7 @@ public final class DeadCap {
   }
 
   public int fit(int goal, int what) {
-    if (what < 0 || what > 2) {
+    if (!isGoal(goal) || what < 0 || what > 2) {
       return NONE;
     }
     chooser.chooseFit(books, tally, goal);
@@ -723,6 +724,10 @@ public final class DeadCap {
 
   private static boolean isYear(int year) {
     return year >= 0 && year < MANY_YEARS;
+  }
+
+  private static boolean isGoal(int goal) {
+    return goal >= -MOST_GOAL && goal <= MOST_GOAL;
   }
 
   /** Ends the reading of a text into the draft: the tape is empty, and without a FAULT the draft holds. */

@@ -774,8 +774,12 @@ final class Model {
     return s.policy.isEmpty() || s.refusal(k) != 0 ? -1000000000000L : sumFor(k);
   }
 
+  private static boolean noGoal(int goal) {
+    return Math.abs((long) goal) > 999999;
+  }
+
   int byPolicy(int goal) {
-    if (s.policy.isEmpty() || Math.abs((long) goal) > 999999) {
+    if (s.policy.isEmpty() || noGoal(goal)) {
       return NONE;
     }
     int many = 0;
@@ -803,7 +807,7 @@ final class Model {
   }
 
   int set(int goal, int what) {
-    if (what < 0 || what > 1) {
+    if (noGoal(goal) || what < 0 || what > 1) {
       return NONE;
     }
     List<Integer> who = s.begun();
@@ -893,7 +897,7 @@ final class Model {
   }
 
   int fit(int goal, int what) {
-    if (what < 0 || what > 2) {
+    if (noGoal(goal) || what < 0 || what > 2) {
       return NONE;
     }
     List<Integer> who = s.begun();

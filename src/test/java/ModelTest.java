@@ -86,6 +86,10 @@ public final class ModelTest {
   }
 
   private int goal() {
+    if (r.nextInt(20) == 0) {
+      int edge = 999998 + r.nextInt(3);
+      return r.nextBoolean() ? edge : -edge;
+    }
     return r.nextInt(20) == 0 ? any(1000) : m.s.room() + r.nextInt(8000) - 2500;
   }
 

@@ -860,9 +860,10 @@ public final class PromisesTest {
     due("by as much", x.set(97200, 1), 4);
     due("none", x.set(97201, 0), -2);
     due("none", x.set(97201, 1), -2);
-    due("none", x.set(MAX, 0), -2);
+    due("none", x.set(999999, 0), -2);
     due("nothing is done", x.now(0), 3300);
-    due("all", x.set(MIN, 0), 0);
+    due("all", x.set(-999999, 0), 0);
+    noGoals(x);
     due("set(0, 2)", x.set(0, 2), -1);
     due("set(0, -1)", x.set(0, -1), -1);
     x.days(150);
@@ -870,6 +871,13 @@ public final class PromisesTest {
     due("0 saves 100", x.would(0, 3), 100);
     due("dearer", x.set(97201, 0), 5600);
     due("both", x.set(97201, 1), 5);
+    DeadCap deep = Check.told("l0,0;" + times("p0,1,0,0,0:99999,0;", 11));
+    due("ROOM below each goal", deep.now(1), -1099989);
+    due("no goal, though ROOM is as much", deep.set(-1099989, 0), -1);
+    due("two must go", deep.set(-999989, 1), 3);
+    due("one must go", deep.set(-999990, 1), 1);
+    due("one for the least goal", deep.set(-999999, 1), 1);
+    noGoals(deep);
     DeadCap like = Check.told("c40;p0,1,0,0,50:200,0;p0,1,0,0,25:400,0;p0,1,0,0,50:200,0;p0,1,0,0,0:100,0;p0,1,0,0,50:200,0;");
     // ROOM 98900: 3 brings 100 for none, 0, 2, 4 each 100 for 100, 1 300 for 100
     due("for none", like.set(99000, 1), 8);
@@ -887,6 +895,17 @@ public final class PromisesTest {
     due("the first 10 OPEN ones", many.set(99900, 1), 1023);
   }
 
+  /** A goal is what byPolicy() takes as one. */
+  private static void noGoals(DeadCap x) {
+    int[] none = {-1000000, 1000000, -16777215, 1073741823, MIN, MAX};
+    for (int goal : none) {
+      for (int what = 0; what < 3; what++) {
+        due("set(" + goal + ", " + what + ")", x.set(goal, what), -1);
+        due("fit(" + goal + ", " + what + ")", x.fit(goal, what), -1);
+      }
+    }
+  }
+
   private static void fit() {
     DeadCap x = Check.told(FOUR);
     due("keep", x.fit(96700, 0), 0);
@@ -899,7 +918,9 @@ public final class PromisesTest {
     due("TURNED", x.fit(97500, 2), 1);
     due("CUT", x.fit(97500, 1), 4);
     due("none", x.fit(99000, 0), -2);
-    due("none", x.fit(MAX, 2), -2);
+    due("none", x.fit(999999, 2), -2);
+    due("all", x.fit(-999999, 0), 0);
+    noGoals(x);
     due("others", x.fit(0, 3), -1);
     due("others", x.fit(0, -1), -1);
     // ROOM 99000: a CUT of 0 brings 200 for 200, of 1 540 for 60, a TURN of 1 100 for none
