@@ -13,6 +13,10 @@ final class Check {
     part = name;
   }
 
+  static int asked() {
+    return asked;
+  }
+
   static void due(String call, long got, long want) {
     asked++;
     if (got != want) {
