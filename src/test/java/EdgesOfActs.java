@@ -309,6 +309,17 @@ final class EdgesOfActs {
     x.undo();
     x.undo();
     due("one is taken back", x.undo(), 5);
+    DeadCap full = Check.told("l0,0;l1,0;p0,2,0,0,0:100,0:100,0;");
+    for (int i = 0; i < 24; i++) {
+      full.promise(0, i < 12 ? 0 : 1, 1, true);
+    }
+    due("COUNT of 24", full.now(0), 112);
+    due("the next YEAR", full.ahead(1), 112);
+    due("is above its LIMIT", full.over(1), 1);
+    due("FIT", full.fit(-112, 1), 0);
+    full.year();
+    due("what was LIKELY and is not EARNED", full.limit(1), 12);
+    due("COUNT of the others", full.now(0), 112);
     due("the 24th again", x.promise(0, 0, 77, false), 23);
     due("its amount", x.promised(23, 2), 77);
     due("the 25th", x.promise(0, 0, 1, true), -1);
@@ -875,6 +886,16 @@ final class EdgesOfActs {
     Sentences.years(twice, 9);
     due("it is OPEN to its last YEAR", twice.contract(0, 5), 1);
     due("then it is over", twice.year(), 1);
+    int[] left = {0, 99, 50, 33, 27, 23, 23};
+    for (int y = 4; y <= 9; y++) {
+      DeadCap ten = Sentences.crowd(1);
+      ten.longer(0, 5, 199, 0);
+      ten.longer(0, 4, 199, 0);
+      Sentences.years(ten, y);
+      Sentences.done("turn in YEAR " + y + " of ten", ten, a -> a.turn(0, 99), 100 + left[10 - y]);
+      due("all of it", ten.coins(0, 0), 99);
+      due("the last YEAR", ten.pay(0, 9, 2), y == 4 ? 0 : y == 9 ? 99 : 99 / (10 - y));
+    }
     for (int voids = 0; voids <= 2; voids++) {
       for (int n = 1; n <= 4; n++) {
         int more = n;
@@ -1276,6 +1297,27 @@ final class EdgesOfActs {
       due("DAY", x.is(1), well ? 0 : 5);
       due("undo", x.undo(), well ? 1 : 0);
       due("DAY", x.is(1), well ? 5 : 0);
+    }
+    DeadCap ended = Sentences.told("p1,3,1,403,0:100,7:200,8:300,9;", 2, 150);
+    ended.cut(0);
+    ended.keep(0);
+    for (int i = 0; i < 4; i++) {
+      due("counted", ended.coins(0, 1), 103);
+      due("DEAD", ended.coins(0, 2), 300);
+      due("CASH ahead of the YEAR in which it was CUT", ended.cash(0, 1), 510);
+      due("CASH of that YEAR", ended.cash(0, 2), 0);
+      due("dead(2)", ended.dead(2), 108);
+      due("dead(3)", ended.dead(3), 200);
+      if (i == 0) {
+        Check.text(ended, "c7;");
+      } else if (i == 1) {
+        ended.undo();
+        ended.days(1);
+        ended.undo();
+      } else {
+        Check.text(ended, "p2,1,0,0,0:100,0;");
+        due("restore(0)", ended.restore(0), true);
+      }
     }
     DeadCap many = Sentences.crowd(40);
     many.keep(0);

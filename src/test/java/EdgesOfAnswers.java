@@ -33,9 +33,13 @@ final class EdgesOfAnswers {
         EdgesOfAnswers::yearsLeft, 14);
     Sentences.holds("Of a CONTRACT in a YEAR: 0 BASE, 1 ROSTER BONUS (0 if that is none of its YEARS), 2 PARTS, 3 HIT as if OPEN. NONE for others.",
         EdgesOfAnswers::pay, 15);
+    Sentences.holds("HIT of a CONTRACT in a YEAR: PARTS of its BONUSES for that YEAR, and (in its YEARS) BASE and ROSTER BONUS of that.",
+        EdgesOfAnswers::hit, 14, 15);
     Sentences.holds("COUNT of YEAR (what 0), ROOM (1; may be below 0). -1000000000 for others.", EdgesOfAnswers::now, 16);
     Sentences.holds("SAVED (3; may be below 0). -1000000000: the CUT would be refused, others.", EdgesOfAnswers::would, 17);
     Sentences.holds("SUM of THE POLICY for a CONTRACT. -1000000000000: there is none, its CUT would be refused.", EdgesOfAnswers::says, 28);
+    Sentences.holds("h HIT of YEAR, x what is DEAD in all by a CUT now, s SAVED: by how much COUNT of YEAR were less by it, "
+        + "y YEARS left (this one, too), b BASE of YEAR, n number.", EdgesOfAnswers::letters, 28);
     Sentences.holds("2 amount, 3 1 if LIKELY, 4 1 if EARNED. NONE for others.", EdgesOfAnswers::promised, 49);
   }
 
@@ -132,6 +136,23 @@ final class EdgesOfAnswers {
     due("behind, too", x.pay(0, 2, 3), 137);
   }
 
+  private static void hit() {
+    // FIRST YEAR 2, its last YEAR 3, VOID ones 4 and 5: 40 of its BONUS in each
+    DeadCap x = Check.told("p2,2,2,160,0:100,7:200,8;");
+    int[] hits = {0, 0, 147, 248, 40, 40, 0, 0};
+    for (int y = 0; y < hits.length; y++) {
+      due("HIT of " + y, x.pay(0, y, 3), hits[y]);
+      due("HIT of YEAR " + y, x.contract(0, 6), y <= 3 ? hits[y] : 0);
+      due("COUNT of YEAR " + y, x.now(0), y == 4 ? 80 : y > 4 ? 0 : hits[y]);
+      x.year();
+    }
+    DeadCap six = Check.told("p0,6,4,50,0" + Sentences.pays(6) + ";");
+    int[] ofSix = {110, 110, 110, 110, 110, 100, 0, 0, 0, 0};
+    for (int y = 0; y < ofSix.length; y++) {
+      due("of six, five PARTS: " + y, six.pay(0, y, 3), ofSix[y]);
+    }
+  }
+
   private static void now() {
     int[] limits = {99, 100, 101};
     for (int limit : limits) {
@@ -175,6 +196,39 @@ final class EdgesOfAnswers {
       Check.policy(x, sums[i]);
       due(sums[i], x.says(1), want[i]);
     }
+  }
+
+  private static void dueSums(DeadCap x, int k, int[] want) {
+    String[] letters = {"h", "x", "s", "y", "b", "n"};
+    for (int i = 0; i < letters.length; i++) {
+      due("policy " + letters[i], Check.policy(x, letters[i]), 1);
+      due(letters[i] + " of " + k, x.says(k), want[i]);
+    }
+  }
+
+  private static void letters() {
+    String s = "p0,3,1,403,50:101,7:201,8:301,9;";
+    // PARTS of 103, 100, 100 and 100; 50 of BASE are SURE
+    dueSums(Sentences.told(s, 0, 19), 0, new int[] {211, 453, 211 - 453, 3, 101, 0});
+    dueSums(Sentences.told(s, 0, 20), 0, new int[] {211, 460, 211 - 460, 3, 101, 0});
+    dueSums(Sentences.told(s, 0, 149), 0, new int[] {211, 460, 211 - 460, 3, 101, 0});
+    dueSums(Sentences.told(s, 0, 150), 0, new int[] {211, 460, 211 - 160, 3, 101, 0});
+    dueSums(Sentences.told(s, 1, 0), 0, new int[] {309, 300, 9, 2, 201, 0});
+    dueSums(Sentences.told(s, 2, 0), 0, new int[] {410, 200, 210, 1, 301, 0});
+    DeadCap forty = Sentences.crowd(40);
+    dueSums(forty, 39, new int[] {100, 0, 0, 1, 100, 39});
+    Check.text(forty, "c40;");
+    due("policy", Check.policy(forty, "s*1000+n"), 3);
+    due("all count in full", forty.says(39), 100039);
+    DeadCap most = Check.told("p0,6,4,99999,100" + Sentences.times(":99999,99999", 6) + ";");
+    most.days(364);
+    dueSums(most, 0, new int[] {2 * 99999 + 20003, 3 * 99999, 0, 6, 99999, 0});
+    DeadCap least = Check.told("m0;p0,1,0,0,0:0,0;");
+    dueSums(least, 0, new int[] {0, 0, 0, 1, 0, 0});
+    DeadCap wide = Sentences.crowd(1);
+    // beyond a long the document tells nothing: it goes round as a long does
+    due("policy", Check.policy(wide, "999999*999999*999999*999999"), 4);
+    due("it goes round", wide.says(0), 999999L * 999999L * 999999L * 999999L);
   }
 
   private static void promised() {
@@ -314,6 +368,13 @@ final class EdgesOfAnswers {
     due("199", turn.fit(99699, 2), 1);
     due("200", turn.fit(99700, 2), 1);
     due("201", turn.fit(99701, 2), -2);
+    // 301 of 401: 151 of it counts now, what is left over is in the first PART
+    DeadCap odd = Check.told("p0,2,0,0,100:401,0:100,0;");
+    due("MOST", odd.turned(0, 0), 301);
+    due("less", odd.turned(0, 1), 150);
+    due("149", odd.fit(odd.now(1) + 149, 2), 1);
+    due("150", odd.fit(odd.now(1) + 150, 2), 1);
+    due("151", odd.fit(odd.now(1) + 151, 2), -2);
     // done at once: 0 TURNED counts 300, so that 1 counts in full in its stead
     DeadCap rule = Check.told("c1;p0,2,0,0,100:500,0:100,0;p0,1,0,0,100:301,0;");
     due("0 TURNED: 301 and its PART of 200", rule.fit(99500, 2), 0);
@@ -546,6 +607,10 @@ final class EdgesOfAnswers {
         due("YEAR " + y + ", over(" + n + ")", one.over(n), y <= n ? 1 << y - 1 : 0);
       }
     }
+    DeadCap full = Check.told("l0,99;p0,1,0,0,0:100,0;");
+    due("this YEAR, ROOM -1", full.now(1), -1);
+    due("is none of the next", full.over(1), 0);
+    due("is none of the next", full.over(10), 0);
     DeadCap last = Sentences.told("l19,0;p19,1,0,0,0:99999,0;", 8, 0);
     // ROOM of each YEAR comes to the next LIMIT, so that of 19 is told anew
     Check.text(last, "l19,0;");
@@ -640,6 +705,10 @@ final class EdgesOfAnswers {
         x.year();
         dueCoins(x, cut[y - 1][0], cut[y - 1][1], cut[y - 1][2]);
       }
+    }
+    for (int first : new int[] {0, 1, 2, 3, 10, 19}) {
+      DeadCap x = Check.told("p" + first + ",1,0,301,0:100,0;");
+      dueCoins(x, first == 0 ? 301 : 0, 0, first == 0 ? 0 : 301);
     }
     DeadCap last = Sentences.told("p18,2,0,301,0:100,0:100,0;", 19, 0);
     dueCoins(last, 301, 0, 0);
@@ -1057,6 +1126,8 @@ final class EdgesOfAnswers {
     due("the least as bits, though it is dearer", dear.buys(1), 1);
     due("HITS together", dear.buys(2), 200);
     DeadCap none = selling("l0,99;", "5,1,0,100;");
+    Check.text(none, "l0,99;p0,1,0,0,50:100,0;");
+    due("a SET ahead of it", none.set(49, 0), 50);
     due("none can be paid", none.buys(1), 0);
     due("WORTH", none.buys(0), 0);
     due("HITS", none.buys(2), 0);

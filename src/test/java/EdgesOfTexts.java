@@ -33,6 +33,7 @@ final class EdgesOfTexts {
 
   private static void tape() {
     Sentences.holds("`DeadCap()`: No CONTRACTS.", EdgesOfTexts::noContracts, 1);
+    Sentences.holds("An object is used for at most 512 calls after it has been made; what later calls answer is free.", EdgesOfTexts::calls, 1);
     Sentences.holds("YEAR 0 to 19, DAY 0 to 364 (both 0 at first).", EdgesOfTexts::atFirst, 1, 11);
     Sentences.holds("Twenty bytes come behind the tape, the highest of a first: how many it has.", EdgesOfTexts::twentyBytes, 2);
     Sentences.holds("NONE, and none come, if there would be more than 500.", EdgesOfTexts::fiveHundredBytes, 2);
@@ -48,6 +49,21 @@ final class EdgesOfTexts {
     due("contract(0, 0)", x.contract(0, 0), -1);
     due("no DEEDS", x.is(11), 0);
     due("no tape", x.is(12), 0);
+  }
+
+  private static void calls() {
+    DeadCap x = new DeadCap();
+    for (int i = 1; i <= 510; i += 2) {
+      due("call " + i, x.days(7), 7);
+      due("call " + (i + 1), x.undo(), 0);
+    }
+    due("call 511", x.days(3), 3);
+    due("call 512", x.is(1), 3);
+    for (int i = 0; i < 3; i++) {
+      // what they answer is free, but they end
+      x.days(1);
+      x.write();
+    }
   }
 
   private static void atFirst() {
@@ -505,6 +521,11 @@ final class EdgesOfTexts {
       due("the tape is empty then", x.is(12), 0);
       due("no DEED", x.is(11), deeds);
     }
+    for (int i = 0; i < 8; i++) {
+      Check.faultAt("nothing is left of a FAULT", x, Check.policy(x, "1+2*((((((3"), 11);
+    }
+    due("another", Check.policy(x, "1+2*(3-4*(5+6*(7-8*(9+1*(11-2*(2+3))))))"), 20);
+    due("its SUM", x.says(0), 1 + 2 * (3 - 4 * (5 + 6 * (7 - 8 * (9 + 1 * (11 - 2 * (2 + 3)))))));
   }
 
   // ---- promise 6 ----
