@@ -281,6 +281,7 @@ final class EdgesOfActs {
     Sentences.holds("PROMISES (24): to an OPEN CONTRACT, for a YEAR, an amount, LIKELY or not;", EdgesOfActs::twentyFour, 21, 49);
     Sentences.holds("A PROMISE (amount 1 to 99999) for a YEAR (this one, or one to come): its number.", EdgesOfActs::amountAndYear, 21, 49);
     Sentences.holds("NONE: no OPEN CONTRACT, others, there are 24.", EdgesOfActs::noOpenContract, 21);
+    Sentences.holds("they can be EARNED in their YEAR (while it is OPEN).", EdgesOfActs::earnedInItsYear, 22);
     Sentences.holds("NONE: no such PROMISE, it is already, it isn't its YEAR, its CONTRACT isn't OPEN.", EdgesOfActs::earned, 22);
     Sentences.holds("COUNT of YEAR has those of OPEN ones for that YEAR, too, that are LIKELY (all, ahead of SEASON DAY, too; so in FIT).",
         EdgesOfActs::likelyCounts, 16, 21, 38);
@@ -358,6 +359,26 @@ final class EdgesOfActs {
     due("over", x.promise(1, 1, 5, true), -1);
     due("begun", x.promise(2, 1, 5, true), 2);
     due("no CONTRACTS", new DeadCap().promise(0, 0, 5, true), -1);
+  }
+
+  private static void earnedInItsYear() {
+    for (int of : new int[] {1, 2, 18, 19}) {
+      for (int y = of - 1; y <= Math.min(19, of + 1); y++) {
+        for (int cutIn = y; cutIn <= y + 1; cutIn++) {
+          DeadCap x = Sentences.inYear(of - 1);
+          Check.text(x, "p" + (of - 1) + ",1,0,0,0:100,0;");
+          x.longer(0, Math.min(2, 20 - of), 100, 0);
+          x.promise(0, of, 7, true);
+          Sentences.years(x, y - of + 1);
+          if (cutIn == y) {
+            due("cut", x.cut(0), 0);
+          }
+          boolean well = y == of && cutIn > y;
+          due("PROMISE for " + of + " in " + y + (cutIn == y ? ", CUT" : ""), x.earn(0), well ? 7 : -1);
+          due("EARNED", x.promised(0, 4), well ? 1 : 0);
+        }
+      }
+    }
   }
 
   private static void earned() {
@@ -600,6 +621,8 @@ final class EdgesOfActs {
     Sentences.holds("CUT: how many are OPEN then. NONE: refused.", EdgesOfActs::whoIsCut, 18);
     Sentences.holds("TRADED: how many are OPEN then. NONE: refused.", EdgesOfActs::whoIsTraded, 19);
     Sentences.holds("REASONS why an act is refused, the first that holds:", EdgesOfActs::firstReason, 10);
+    Sentences.holds("1 there is no such CONTRACT, 2 it isn't OPEN, 3 it has not begun, 4 a number can't be, 5 BASE were below LEAST PAY, "
+        + "6 YEARS too many, 7 the YEARS are at an end.", EdgesOfActs::eachReason, 10);
   }
 
   private static void begun() {
@@ -673,6 +696,26 @@ final class EdgesOfActs {
     Sentences.refused("longer, 4 ahead of 5 and 6: BONUS", x, a -> a.longer(0, 1, 99, 100000), 4);
     Sentences.refused("longer, 5 ahead of 6", x, a -> a.longer(0, 1, 99, 0), 5);
     Sentences.refused("longer, 6", x, a -> a.longer(0, 1, 100, 0), 6);
+  }
+
+  /** Each REASON at its edge, and the act on the other side of it, which is done. */
+  private static void eachReason() {
+    DeadCap x = Check.told("p0,6,3,0,0" + Sentences.times(":102,0", 6) + ";p0,1,0,0,0:100,0;p1,1,0,0,0:100,0;");
+    Sentences.refused("1", x, a -> a.trade(3), 1);
+    Sentences.done("not 1", x, a -> a.trade(1), 2);
+    Sentences.refused("2", x, a -> a.trade(1), 2);
+    Sentences.refused("3", x, a -> a.trade(2), 3);
+    Sentences.refused("4", x, a -> a.lower(0, 0), 4);
+    Sentences.done("not 4", x, a -> a.lower(0, 1), 101);
+    Sentences.refused("5", x, a -> a.lower(0, 2), 5);
+    Sentences.done("not 5", x, a -> a.lower(0, 1), 100);
+    Sentences.refused("6", x, a -> a.longer(0, 2, 100, 0), 6);
+    Sentences.done("not 6", x, a -> a.longer(0, 1, 100, 0), 9);
+    Sentences.done("year", x, a -> a.year(), 0);
+    Sentences.done("not 3", x, a -> a.trade(2), 1);
+    Sentences.years(x, 17);
+    Sentences.done("not 7", x, a -> a.year(), 0);
+    Sentences.refused("7", x, a -> a.year(), 7);
   }
 
   // ---- TURN, LOWER, SPREAD: promises 15, 23, 25 ----
@@ -956,6 +999,7 @@ final class EdgesOfActs {
 
   private static void market() {
     Sentences.holds("(REASONS: 1, there is no such OFFER; 6, YEARS above 19, or 40 CONTRACTS)", EdgesOfActs::signRefused, 20);
+    Sentences.holds("SIGNED: the CONTRACT's number. NONE: refused.", EdgesOfActs::signedNumbers, 20);
     Sentences.holds("SIGNED an OFFER becomes a CONTRACT from YEAR on (BASE each YEAR, no VOID ones, nothing SURE, no ROSTER BONUS) and is in THE MARKET no more",
         EdgesOfActs::signed, 20, 47);
   }
@@ -993,6 +1037,21 @@ final class EdgesOfActs {
     full.cut(0);
     Sentences.refused("numbers are for good", full, a -> a.sign(0), 6);
     Check.faultAt("41st p", full, Check.text(full, "p0,1,0,0,0:100,0;"), 0);
+  }
+
+  private static void signedNumbers() {
+    for (int before : new int[] {0, 1, 2, 38, 39, 40}) {
+      DeadCap x = Sentences.crowd(before);
+      Check.market(x, "1,1,0,777;");
+      if (before == 40) {
+        Sentences.refused("sign", x, a -> a.sign(0), 6);
+      } else {
+        Sentences.done("sign behind " + before, x, a -> a.sign(0), before);
+        due("its BASE", x.pay(before, 0, 0), 777);
+      }
+      due("CONTRACTS", x.is(7), Math.min(40, before + 1));
+      due("the OFFER stays, if it is refused", x.offer(0, 3), before == 40 ? 777 : -1);
+    }
   }
 
   private static void signed() {
