@@ -10,6 +10,7 @@ public final class BoundariesTest {
     EdgesOfTexts.run();
     EdgesOfActs.run();
     EdgesOfAnswers.run();
+    EdgesTogether.run();
     Sentences.eachPromiseWasNamed();
     Check.finish();
   }

@@ -1,4 +1,6 @@
+import com.sun.management.ThreadMXBean;
 import java.io.IOException;
+import java.lang.management.ManagementFactory;
 import java.lang.reflect.Array;
 import java.lang.reflect.Constructor;
 import java.lang.reflect.Field;
@@ -53,6 +55,10 @@ public final class LanguageTest {
         got.add(method.getReturnType() + " " + method.getName() + "(" + types + ")");
         publicNames.add(method.getName());
       }
+    }
+    for (Method method : DeadCap.class.getDeclaredMethods()) {
+      boolean hidden = Modifier.isPrivate(method.getModifiers());
+      Check.due(method + " bears a name of the face", hidden && publicNames.contains(method.getName()), false);
     }
     Check.due("the face is " + want + ", not " + got, want.equals(got), true);
     Check.due("final", Modifier.isFinal(DeadCap.class.getModifiers()), true);
@@ -130,6 +136,43 @@ public final class LanguageTest {
     x.restore(0);
     x.set(5, 0);
     Check.due("no more is made then", counted(x)[0], before);
+    garbage(x);
+  }
+
+  /** What a call makes and drops is counted in the room, too: once the places are made, no call makes anything. */
+  private static void garbage(DeadCap x) {
+    ThreadMXBean threads = (ThreadMXBean) ManagementFactory.getThreadMXBean();
+    long me = Thread.currentThread().getId();
+    long answers = 0;
+    threads.getThreadAllocatedBytes(me);
+    long before = threads.getThreadAllocatedBytes(me);
+    for (int i = 0; i < 300; i++) {
+      answers += acts(x) + texts(x) + answers(x, i % 20);
+    }
+    long made = threads.getThreadAllocatedBytes(me) - before;
+    Check.due("calls were made: " + answers, answers != 0, true);
+    Check.due(made + " bytes were made by calls", made < 10000, true);
+  }
+
+  private static long acts(DeadCap x) {
+    long sum = x.promise(0, 0, 5, true) + x.earn(0) + x.turn(1, 1) + x.lower(0, 1) + x.longer(0, 1, 100, 5) + x.days(1) + x.year() + x.undo();
+    sum += x.cut(0) + x.trade(0) + x.undo() + x.byPolicy(999999) + (x.keep(0) ? 1 : 0) + (x.keep(1) ? 1 : 0) + (x.restore(0) ? 1 : 0);
+    return sum + x.write() + x.octet(3) + x.why() + x.ended() + x.fault();
+  }
+
+  private static long texts(DeadCap x) {
+    long sum = x.feed(0x63373B00, 0, 0, 0, 0) + x.end(3) + x.text();
+    sum += x.feed(0x6D303B78, 0, 0, 0, 0) + x.end(4) + x.text();
+    sum += x.feed(0x682A7300, 0, 0, 0, 0) + x.end(3) + x.policy();
+    sum += x.feed(0x312C312C, 0x302C3130, 0x303B0000, 0, 0) + x.end(10) + x.market() + x.sign(0);
+    return sum + x.feed(0x64313B79, 0x3B000000, 0, 0, 0) + x.end(5) + x.acts();
+  }
+
+  private static long answers(DeadCap x, int i) {
+    long sum = x.is(i) + x.limit(i) + x.dead(i) + x.contract(i, 7) + x.pay(i, 0, 3) + x.now(1) + x.would(i, 3) + x.says(i);
+    sum += x.set(100000, 1) + x.set(0, 0) + x.turned(i, 1) + x.ahead(i) + x.bestDay(i) + x.coins(i, 1) + x.freeYear(i) + x.allTurned();
+    sum += x.ranked(i) + x.fit(100000, 2) + x.piece(i, 9, 0) + x.lastDay(i, 1) + x.cash(i, 0) + x.allCash(i) + x.tag(i) + x.counted(0);
+    return sum + x.share(i) + x.dearest(i) + x.offer(0, 4) + x.buys(0) + x.promised(0, 2) + x.floor(i, 2) + x.over(10);
   }
 
   private static void due(DeadCap x, int objects, int elements) {
