@@ -1,3 +1,5 @@
+import java.util.function.ToIntFunction;
+
 /** Edges that meet: answers asked on other DAYS than the first, ties that come by a TURN, the last places of all rows. */
 final class EdgesTogether {
   private EdgesTogether() {
@@ -11,6 +13,7 @@ final class EdgesTogether {
     daysOfAnswers();
     likeOnes();
     oneAmongOthers();
+    nothingBetween();
     lastPlaces();
     comesBack();
   }
@@ -190,13 +193,71 @@ final class EdgesTogether {
     }
   }
 
+  // ---- a ; with nothing ahead of it ----
+
+  private static void nothingBetween() {
+    Sentences.holds("THE TEXT: ITEMS, each with ; behind, no blanks:", () -> lonelyEnd(DeadCap::text, "c7;"), 4, 8);
+    Sentences.holds("THE MARKET, a text: { WORTH , YEARS , BONUS , BASE ; }", () -> lonelyEnd(DeadCap::market, "1,1,0,100;"), 6, 8);
+    Sentences.holds("ACTS, a text: { ACT ; }, 20 at most, no blanks:", () -> lonelyEnd(DeadCap::acts, "d1;"), 7, 8);
+    Sentences.holds("PART: THING { * THING };", () -> {
+      for (String wrong : new String[] {";", ")", "+", "-", "*", " ", "z"}) {
+        faultOf(DeadCap::policy, wrong, 0);
+        faultOf(DeadCap::policy, "(" + wrong, 1);
+        faultOf(DeadCap::policy, "h+" + wrong, 2);
+        faultOf(DeadCap::policy, "h*" + wrong, 2);
+      }
+    }, 5, 8);
+  }
+
+  private static void lonelyEnd(ToIntFunction<DeadCap> read, String one) {
+    for (String wrong : new String[] {";", ";;", ";" + one, " ", ",", "0;", (char) 0 + ";", (char) 255 + ";"}) {
+      faultOf(read, wrong, 0);
+      faultOf(read, one + wrong, one.length());
+    }
+  }
+
+  private static void faultOf(ToIntFunction<DeadCap> read, String text, int place) {
+    DeadCap x = new DeadCap();
+    Check.tape(x, text);
+    Check.faultAt(text, x, read.applyAsInt(x), place);
+    due("no DEED", x.is(11), 0);
+    due("the tape is empty", x.is(12), 0);
+  }
+
   // ---- the last places ----
 
   private static void lastPlaces() {
     Sentences.holds("A CONTRACT (40 at most; numbers as they come, for good)", EdgesTogether::fortieth, 14, 16, 17, 21, 31, 36, 44);
+    Sentences.holds("The latest DEED is taken back: how many still can be.", EdgesTogether::takenBack, 32, 41, 42, 52);
     Sentences.holds("PROMISES (24): to an OPEN CONTRACT, for a YEAR, an amount, LIKELY or not;", EdgesTogether::lastPromise, 21, 49, 52, 54);
     Sentences.holds("12 OFFERS at most, no blanks", EdgesTogether::lastOffer, 47, 52, 54);
     Sentences.holds("(to 10 YEARS and VOID ones in all; VOID ones, too, by 19)", EdgesTogether::tenthYear, 15, 23, 25, 41, 52, 54);
+  }
+
+  /** One that was taken back stands nowhere; behind the fortieth there is none. */
+  private static void takenBack() {
+    for (int before : new int[] {0, 1, 39}) {
+      DeadCap x = Sentences.crowd(before);
+      Check.text(x, "p0,6,2,1000,50" + Sentences.times(":900,9", 6) + ";");
+      due("the last YEAR", x.turn(before, 100) > 0 ? 1 : 0, 1);
+      due("ahead(1)", x.ahead(1), 909 + 200 + 20);
+      due("allCash(1)", x.allCash(1), 909);
+      x.undo();
+      due("ahead(1)", x.ahead(1), 909 + 200);
+      x.undo();
+      due("ahead(1)", x.ahead(1), 0);
+      due("over(10)", x.over(10), 0);
+      due("allCash(0)", x.allCash(0), 100 * before);
+      due("allCash(1)", x.allCash(1), 0);
+      due("dearest(1)", x.dearest(1), before == 0 ? -2 : 0);
+      due("is(8)", x.is(8), before);
+      due("contract", x.contract(before, 0), -1);
+      due("ranked", x.ranked(before), -1);
+      due("allTurned", x.allTurned(), 100000 - Math.min(20, before) * 100);
+      due("tag(40)", x.tag(40), before == 0 ? -2 : 100);
+      due("set", x.set(100001, 0), -2);
+      due("fit", x.fit(100001, 0), -2);
+    }
   }
 
   private static void fortieth() {
