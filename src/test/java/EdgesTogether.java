@@ -229,6 +229,7 @@ final class EdgesTogether {
   private static void lastPlaces() {
     Sentences.holds("A CONTRACT (40 at most; numbers as they come, for good)", EdgesTogether::fortieth, 14, 16, 17, 21, 31, 36, 44);
     Sentences.holds("The latest DEED is taken back: how many still can be.", EdgesTogether::takenBack, 32, 41, 42, 52);
+    Sentences.holds("All is as KEPT as k: true (a DEED);", EdgesTogether::placeOfTenYears, 14, 15, 20, 34, 41, 54);
     Sentences.holds("PROMISES (24): to an OPEN CONTRACT, for a YEAR, an amount, LIKELY or not;", EdgesTogether::lastPromise, 21, 49, 52, 54);
     Sentences.holds("12 OFFERS at most, no blanks", EdgesTogether::lastOffer, 47, 52, 54);
     Sentences.holds("(to 10 YEARS and VOID ones in all; VOID ones, too, by 19)", EdgesTogether::tenthYear, 15, 23, 25, 41, 52, 54);
@@ -392,6 +393,43 @@ final class EdgesTogether {
     dueTenth(x, 900, 0, 900);
     due("over", x.year(), 1);
     due("contract(0, 4)", x.contract(0, 4), 2);
+  }
+
+  /** A CONTRACT of ten YEARS was there, with money in each of them; what comes in its place has its own alone. */
+  private static void placeOfTenYears() {
+    DeadCap x = new DeadCap();
+    Check.market(x, "1,2,7,300;");
+    x.keep(0);
+    for (int round = 0; round < 4; round++) {
+      due("text", Check.text(x, "p0,6,0,500,50" + Sentences.times(":900,9", 6) + ";"), 1);
+      due("longer", x.longer(0, 4, 900, 50), 9);
+      for (int y = 0; y < 10; y++) {
+        due("HIT", x.turn(0, 5) > 0 ? 1 : 0, 1);
+        x.year();
+      }
+      due("coins(0, 0)", x.coins(0, 0), 600);
+      x.restore(0);
+      if (round % 2 == 1) {
+        due("text", Check.text(x, "p0,2,0,7,0:300,0:300,0;"), 1);
+      } else {
+        due("sign", x.sign(0), 0);
+      }
+      dueOfTwoYears(x);
+      x.restore(0);
+      due("no CONTRACTS", x.is(7), 0);
+    }
+  }
+
+  private static void dueOfTwoYears(DeadCap x) {
+    due("coins(0, 0)", x.coins(0, 0), 7);
+    due("coins(0, 3)", x.coins(0, 3), 3);
+    due("would(0, 2)", x.would(0, 2), 7);
+    for (int y = 0; y < 20; y++) {
+      due("pay(0, " + y + ", 0)", x.pay(0, y, 0), y < 2 ? 300 : 0);
+      due("pay(0, " + y + ", 1)", x.pay(0, y, 1), 0);
+      due("pay(0, " + y + ", 2)", x.pay(0, y, 2), y == 0 ? 4 : y == 1 ? 3 : 0);
+      due("cash(0, " + y + ")", x.cash(0, y), y == 0 ? 307 : y == 1 ? 300 : 0);
+    }
   }
 
   // ---- each YEAR comes back ----
